@@ -96,6 +96,19 @@ public final class CoursesAndTotalsTest {
         }
         Check.refuses("courseByWidth(9)", NO_ELEMENT, () -> knitter.courseByWidth(9));
         Check.refuses("courseByWidth(-1)", NO_ELEMENT, () -> knitter.courseByWidth(-1));
+        knitter.castOff();
+        knitter.castOn(0, 0);
+        knitter.clearPattern();
+        knitter.setTension(1);
+        knitter.addYarn(2, 50);
+        knitter.knit(1);
+        Check.answers("courseByWidth(0) of a new shawl", 0, () -> knitter.courseByWidth(0));
+        Check.refuses("courseByWidth(1) of a new shawl", NO_ELEMENT, () -> knitter.courseByWidth(1));
+        knitter.knit(9);
+        knitter.knit(10);
+        knitter.knit(10);
+        Check.answers("courseByWidth(29) of 30 courses", 29, () -> knitter.courseByWidth(29));
+        Check.refuses("courseByWidth(30) of 30 courses", NO_ELEMENT, () -> knitter.courseByWidth(30));
         Check.refuses("courseByWidth(0) at first", NO_ELEMENT, () -> new ShawlKnitter().courseByWidth(0));
     }
 

@@ -95,12 +95,26 @@ public final class KnittingTest {
         slipping.addPatternRow(8);
         Check.rejects("knit(10) with a course of width 0", ShawlKnitter.NOTHING_TO_KNIT, 2, slipping,
                 () -> slipping.knit(10));
+        ShawlKnitter emptying = soonEmpty();
+        Check.rejects("knit(2), of which the first drops the loops of the second", ShawlKnitter.NOTHING_TO_KNIT, 6,
+                emptying, () -> emptying.knit(2));
         slipping.setTension(9);
         slipping.selectFeeder(1);
         slipping.addYarn(1, 17);
         Check.rejects("knit(3), of which the yarn stops the second", ShawlKnitter.NO_YARN, 9, slipping,
                 () -> slipping.knit(3));
         limitOfCourses();
+    }
+
+    /** The course 5 drops the loop of the needle 1, which alone the course 6 could knit. */
+    private static ShawlKnitter soonEmpty() {
+        ShawlKnitter knitter = ready(0, 1);
+        knitter.addPatternRow(1);
+        knitter.knit(5);
+        knitter.clearPattern();
+        knitter.addPatternRow(2);
+        knitter.addPatternRow(1);
+        return knitter;
     }
 
     private static void limitOfCourses() {
@@ -156,6 +170,12 @@ public final class KnittingTest {
         knitter.clearPattern();
         knitter.transfer(11, true);
         widthIs("without a pattern again", 21, knitter);
+        for (int column = 0; column < 8; column++) {
+            ShawlKnitter other = new ShawlKnitter();
+            other.castOn(0, 17);
+            other.addPatternRow(1 << column);
+            widthIs("by the column " + column + " alone", column < 2 ? 3 : 2, other);
+        }
     }
 
     private static void widthIs(String when, int due, ShawlKnitter knitter) {
@@ -220,6 +240,17 @@ public final class KnittingTest {
         String before = View.of(knitter);
         knitter.dropsIn(10);
         Check.same("the knitter after dropsIn", before, View.of(knitter));
+        ShawlKnitter rows = ready(0, 1);
+        rows.addPatternRow(1);
+        rows.knit(4);
+        rows.addPatternRow(1);
+        rows.addPatternRow(2);
+        // The courses 4 and 5 are knit by the rows 1 and 2, so that the needle 1 is knit in time.
+        Check.answers("dropsIn(2) by several rows", 0, () -> rows.dropsIn(2));
+        Check.answers("dropsIn(10) by several rows", 0, () -> rows.dropsIn(10));
+        ShawlKnitter emptying = soonEmpty();
+        Check.answers("dropsIn(1)", 1, () -> emptying.dropsIn(1));
+        Check.answers("dropsIn(10)", 1, () -> emptying.dropsIn(10));
         Check.refuses("dropsIn(0)", BAD_ARGUMENT, () -> knitter.dropsIn(0));
         Check.refuses("dropsIn(11)", BAD_ARGUMENT, () -> knitter.dropsIn(11));
         Check.refuses("dropsIn(-1)", BAD_ARGUMENT, () -> knitter.dropsIn(-1));
@@ -257,6 +288,8 @@ public final class KnittingTest {
         String before = View.of(slipping);
         Check.answers("coursesPossible() up to an empty course", 2, slipping::coursesPossible);
         Check.same("the knitter after coursesPossible", before, View.of(slipping));
+        ShawlKnitter emptying = soonEmpty();
+        Check.answers("coursesPossible() up to a course whose loops have dropped", 1, emptying::coursesPossible);
         ShawlKnitter narrowing = ready(0, 23);
         narrowing.addPatternRow(1);
         narrowing.setTension(6);

@@ -195,6 +195,11 @@ public final class NeedlesTest {
         empty.addYarn(0, 50);
         Check.answers("transfer(7, false), just knit, to no loops", 1, () -> empty.transfer(7, false));
         Check.answers("ageOn(6), as it came", 0, () -> empty.ageOn(6));
+        ShawlKnitter later = ready();
+        later.dropStitch(5);
+        later.knit(4);
+        Check.answers("transfer(6, false), to no loops since four courses", 1, () -> later.transfer(6, false));
+        Check.answers("ageOn(5), as it came", 0, () -> later.ageOn(5));
     }
 
     private static void transferRejections() {

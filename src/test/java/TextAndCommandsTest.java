@@ -69,6 +69,9 @@ public final class TextAndCommandsTest {
         ShawlKnitter dropping = done("c0-15;y3=99;f3;t1;g0;h1;k6");
         Check.answers("writeCourse(5)", 11, () -> dropping.writeCourse(5));
         Check.same("the output", "5:14f3y14!2", View.output(dropping, 11));
+        ShawlKnitter dropOne = done("c0-1;y0=99;h1;k10");
+        Check.answers("writeCourse(5) with one loop that drops", 9, () -> dropOne.writeCourse(5));
+        Check.same("the output", "5:1f0y3!1", View.output(dropOne, 9));
         Check.refuses("writeCourse(99)", NO_INDEX, () -> dropping.writeCourse(99));
         Check.refuses("writeCourse(-1)", NO_INDEX, () -> dropping.writeCourse(-1));
         Check.same("the output after a refusal", "5:14f3y14!2", View.output(dropping, 11));
@@ -143,6 +146,11 @@ public final class TextAndCommandsTest {
         Check.answers("needlesInWork()", 20, knitter::needlesInWork);
         Check.answers("needlesOnHold()", 3, knitter::needlesOnHold);
         Check.answers("yarnIn(0)", 9, () -> knitter.yarnIn(0));
+        View.type(knitter, "p00000000;p00000001");
+        knitter.execute();
+        Check.answers("isKnit(0, 2), after a command with the number 4 = 1 << 2", false, () -> knitter.isKnit(0, 2));
+        Check.answers("isKnit(1, 0)", false, () -> knitter.isKnit(1, 0));
+        Check.answers("isKnit(1, 7)", true, () -> knitter.isKnit(1, 7));
         ShawlKnitter longest = typed("x;x;x;x;x;x;x;x;x;x;x;x;x;x;x;x;x;x;x;x;x;x;x;x;x;x;x;x;x;x");
         longest.castOn(0, 0);
         Check.refuses("execute() of 30 commands", REJECTED, longest::execute);

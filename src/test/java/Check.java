@@ -50,20 +50,20 @@ final class Check {
         }));
     }
 
-    /** The call throws as due, and all that can be asked of the knitter is as before. */
+    /** The call throws as due, and what the knitter answers in brief is as before; Edge asks for more. */
     static void refusesIdly(String what, Class<? extends Exception> due, ShawlKnitter knitter, Call call) {
-        String before = View.of(knitter);
+        String before = View.inBrief(knitter) + View.ofRejection(knitter);
         refuses(what, due, call);
-        same(what + ": the knitter after the refusal", before, View.of(knitter));
+        same(what + ": the knitter after the refusal", before, View.inBrief(knitter) + View.ofRejection(knitter));
     }
 
     /** The call is rejected for this reason, and changes nothing but the latest rejection. */
     static void rejects(String what, int reason, int detail, ShawlKnitter knitter, Call call) {
-        String before = View.ofData(knitter);
+        String before = View.inBrief(knitter);
         refuses(what, UnsupportedOperationException.class, call);
         answers(what + ": its reason", reason, knitter::rejectionReason);
         answers(what + ": its detail", detail, knitter::rejectionDetail);
-        same(what + ": the data after the rejection", before, View.ofData(knitter));
+        same(what + ": the data after the rejection", before, View.inBrief(knitter));
     }
 
     /** The answer of a call as a text, or the name of the exception that it throws. */

@@ -40,8 +40,8 @@ public final class NeedlesTest {
         Check.promise(1, "a new object");
         ShawlKnitter knitter = new ShawlKnitter();
         Check.same("a new knitter", "bed . . . . . . . . . . . . . . . . . . . . . . . . yarn 0 0 0 0 feeder 0"
-                + " tension 3 pattern courses totals 0 0 0 0 reason NoSuchElementException"
-                + " detail NoSuchElementException cause NoSuchElementException"
+                + " tension 3 pattern courses totals 0 0 0 0 rejection NoSuchElementException"
+                + " NoSuchElementException NoSuchElementException"
                 + " offset NoSuchElementException output IndexOutOfBoundsException", View.of(knitter));
         Check.refuses("undo()", IllegalStateException.class, knitter::undo);
         Check.refuses("restoreSnapshot()", IllegalStateException.class, knitter::restoreSnapshot);

@@ -1,4 +1,5 @@
 import java.util.NoSuchElementException;
+import java.util.function.Consumer;
 
 /** Promises 57 to 62: rejections, undo and the snapshot. */
 public final class RejectionsAndHistoryTest {
@@ -77,40 +78,35 @@ public final class RejectionsAndHistoryTest {
 
     private static void undoOfEveryChange() {
         Check.promise(60, "undo");
+        undone("castOn", knitter -> knitter.castOn(7, 8));
+        undone("castOff", ShawlKnitter::castOff);
+        undone("hold", knitter -> knitter.hold(4));
+        undone("release", knitter -> knitter.release(5));
+        undone("dropStitch", knitter -> knitter.dropStitch(3));
+        undone("pickUp", knitter -> knitter.pickUp(2));
+        undone("transfer", knitter -> knitter.transfer(5, false));
+        undone("addYarn", knitter -> knitter.addYarn(3, 7));
+        undone("selectFeeder", knitter -> knitter.selectFeeder(1));
+        undone("selectFeeder, as before", knitter -> knitter.selectFeeder(0));
+        undone("setTension", knitter -> knitter.setTension(8));
+        undone("addPatternRow", knitter -> knitter.addPatternRow(3));
+        undone("clearPattern", ShawlKnitter::clearPattern);
+        undone("knit", knitter -> knitter.knit(6));
+        undone("execute", knitter -> {
+            View.type(knitter, "c9-9;k6;x");
+            knitter.execute();
+        });
+    }
+
+    /** The change is undone by one call, and the five changes ahead of it are left then. */
+    private static void undone(String name, Consumer<ShawlKnitter> change) {
         ShawlKnitter knitter = ready();
         knitter.dropStitch(2);
         knitter.hold(5);
         knitter.addPatternRow(0xFE);
-        Check.answers("undo(), still 4", 4, knitter::undo);
-        undone("castOn", knitter, () -> knitter.castOn(7, 8));
-        undone("castOff", knitter, knitter::castOff);
-        undone("hold", knitter, () -> knitter.hold(4));
-        undone("release", knitter, () -> knitter.release(5));
-        undone("dropStitch", knitter, () -> knitter.dropStitch(3));
-        undone("pickUp", knitter, () -> knitter.pickUp(2));
-        undone("transfer", knitter, () -> knitter.transfer(5, false));
-        undone("addYarn", knitter, () -> knitter.addYarn(3, 7));
-        undone("selectFeeder", knitter, () -> knitter.selectFeeder(1));
-        undone("selectFeeder, as before", knitter, () -> knitter.selectFeeder(0));
-        undone("setTension", knitter, () -> knitter.setTension(8));
-        ShawlKnitter other = ready();
-        other.addPatternRow(0xFE);
-        other.hold(5);
-        undone("addPatternRow", other, () -> other.addPatternRow(3));
-        undone("clearPattern", other, other::clearPattern);
-        undone("knit", other, () -> other.knit(6));
-        View.type(other, "c9-9;k6;x");
-        undone("execute", other, other::execute);
-    }
-
-    /** The change is undone by one call, and four changes are left then. */
-    private static void undone(String name, ShawlKnitter knitter, Check.Call change) {
         String before = View.ofData(knitter);
-        Check.same(name, "done", Check.outcome(() -> {
-            change.run();
-            return "done";
-        }));
-        Check.answers("undo() of " + name, 4, knitter::undo);
+        change.accept(knitter);
+        Check.answers("undo() of " + name, 5, knitter::undo);
         Check.same("the data after undo of " + name, before, View.ofData(knitter));
     }
 
@@ -174,12 +170,13 @@ public final class RejectionsAndHistoryTest {
         knitter.setTension(2);
         knitter.knit(6);
         String saved = View.ofData(knitter);
+        String savedInBrief = View.inBrief(knitter);
         Check.answers("saveSnapshot()", 6, knitter::saveSnapshot);
         Check.refuses("hold(9)", REJECTED, () -> knitter.hold(9));
         View.type(knitter, "q;f3;t7;y3=50;u2;r2;x;c0-23");
         knitter.execute();
         Check.answers("restoreSnapshot()", 6, knitter::restoreSnapshot);
-        Check.same("the data after it", saved, View.ofData(knitter));
+        Check.same("the data after it", savedInBrief, View.inBrief(knitter));
         Check.refuses("undo() after it", BAD_STATE, knitter::undo);
         Check.answers("rejectionDetail()", 9, knitter::rejectionDetail);
         knitter.castOff();

@@ -24,6 +24,10 @@ final class Check {
         subject = text;
     }
 
+    static String subject() {
+        return subject;
+    }
+
     static void same(String what, Object due, Object got) {
         if (String.valueOf(due).equals(String.valueOf(got))) {
             passed++;

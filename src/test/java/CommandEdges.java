@@ -74,8 +74,8 @@ final class CommandEdges extends Edge {
     }
 
     private static void needlesOfCommands() {
-        sentence(TERMS, "\"h\", \"r\", \"d\" or \"u\" and a number puts a needle on hold, releases it, drops its stitch or"
-                + " picks it up.");
+        sentence(TERMS, "\"h\", \"r\", \"d\" or \"u\" and a number puts a needle on hold, releases it, drops its stitch"
+                + " or picks it up.");
         Setup ready = and(FULL, yarn(0, 1));
         bedIs("a1111111111111111111111a", "h0;h23", ready);
         bedIs("a11111111111111111111111", "h0;h23;r23", ready);
@@ -95,8 +95,8 @@ final class CommandEdges extends Edge {
     }
 
     private static void transfers() {
-        sentence(TERMS, "\"l\" or \"g\" and a number transfers the loops of a needle to the left, to the lower index, or to"
-                + " the right.");
+        sentence(TERMS, "\"l\" or \"g\" and a number transfers the loops of a needle to the left, to the lower index,"
+                + " or to the right.");
         bedIs("2.1111111111111111111111", "l1", FULL);
         bedIs("11111111111111111111112.", "l23", FULL);
         bedIs(".21111111111111111111111", "g0", FULL);
@@ -111,8 +111,8 @@ final class CommandEdges extends Edge {
     }
 
     private static void digits() {
-        sentence(TERMS, "\"y\", a digit, \"=\" and a number adds yarn to a feeder, \"f\" and a digit selects a feeder, and"
-                + " \"t\" and a digit sets the tension.");
+        sentence(TERMS, "\"y\", a digit, \"=\" and a number adds yarn to a feeder, \"f\" and a digit selects a feeder,"
+                + " and \"t\" and a digit sets the tension.");
         for (int index = 0; index < 4; index++) {
             int feeder = index;
             answers("yarnIn(" + feeder + ")", 99, done("y" + feeder + "=99"), knitter -> knitter.yarnIn(feeder));
@@ -136,7 +136,8 @@ final class CommandEdges extends Edge {
     }
 
     private static void patternRows() {
-        sentence(TERMS, "\"p\" and 8 digits, each 0 or 1, adds a row to the pattern, the first digit for the column 0;");
+        sentence(TERMS, "\"p\" and 8 digits, each 0 or 1, adds a row to the pattern, the first digit for the"
+                + " column 0;");
         for (int column = 0; column < 8; column++) {
             int at = column;
             String row = "p" + "0".repeat(at) + "1" + "0".repeat(7 - at);
@@ -147,6 +148,8 @@ final class CommandEdges extends Edge {
             answers("nextWidth() after " + others, 21, and(FULL, done(others)), ShawlKnitter::nextWidth);
         }
         executes("p00000000;p11111111;p00000000;p11111111;p00000000;p11111111", 6, NEW);
+        answers("the pattern after other commands", "00000000 00000000 ", and(FULL, done("t7;h23"),
+                done("p00000000;p00000000")), CommandEdges::patternOf);
         rejectsCommands("p11111111", 0, ShawlKnitter.PATTERN_LIMIT, rows(1, 2, 3, 4, 5, 6));
         errs("p0000000", 8);
         errs("p000000000", 9);
@@ -157,6 +160,17 @@ final class CommandEdges extends Edge {
         answers("patternRows()", 0, and(rows(1, 2, 3, 4, 5, 6), done("q")), ShawlKnitter::patternRows);
         executes("q", 1, NEW);
         errs("q0", 1);
+    }
+
+    private static String patternOf(ShawlKnitter knitter) {
+        StringBuilder text = new StringBuilder();
+        for (int row = 0; row < knitter.patternRows(); row++) {
+            for (int column = 0; column < 8; column++) {
+                text.append(knitter.isKnit(row, column) ? '1' : '0');
+            }
+            text.append(' ');
+        }
+        return text.toString();
     }
 
     private static void knitting() {

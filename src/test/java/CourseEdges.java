@@ -113,7 +113,8 @@ final class CourseEdges extends Edge {
         sentence(41, "Of courses with the same width, the one with fewer dropped loops comes first, then the one with"
                 + " the lower index.");
         orderIs("0 1 2 3 4 5 6", shawl(7));
-        // The needle 0 alone knits; those cast on at first drop in the course 5, and those cast on later in the course 6.
+        // The needle 0 alone knits; those cast on at first drop in the course 5, and those cast on later in the
+        // course 6.
         Setup narrow = and(yarn(0, 200), tension(1), rows(1));
         orderIs("0 1 2 3 4 6 7 5", and(narrow, bed(0, 3), courses(8)));
         orderIs("0 1 2 3 4 7 5 6", and(narrow, bed(0, 1), courses(1), bed(2, 3), courses(7)));
@@ -202,7 +203,8 @@ final class CourseEdges extends Edge {
                 ShawlKnitter::yarnUsed);
         answers("yarnUsed() by both, in the next shawl", 32, and(shawl(30), OFF, bed(0, 1), drop(0),
                 knitter -> knitter.pickUp(0), rows(1), courses(1)), ShawlKnitter::yarnUsed);
-        answers("yarnUsed() after a rejection", 0, and(bed(0, 0), tried(knitter -> knitter.knit(1))), ShawlKnitter::yarnUsed);
+        answers("yarnUsed() after a rejection", 0, and(bed(0, 0), tried(knitter -> knitter.knit(1))),
+                ShawlKnitter::yarnUsed);
     }
 
     private static void droppedLoops() {

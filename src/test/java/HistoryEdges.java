@@ -71,8 +71,8 @@ final class HistoryEdges extends Edge {
     }
 
     private static void causeReason() {
-        sentence(59, "Throws `NoSuchElementException` if no call was rejected, or the latest rejection has another reason"
-                + " than COMMAND_REJECTED");
+        sentence(59, "Throws `NoSuchElementException` if no call was rejected, or the latest rejection has another"
+                + " reason than COMMAND_REJECTED");
         refuses("at first", NO_ELEMENT, NEW, ShawlKnitter::causeReason);
         refuses("after a syntax error", NO_ELEMENT, tried("x;"), ShawlKnitter::causeReason);
         refuses("after a command with a wrong argument", NO_ELEMENT, tried("t0"), ShawlKnitter::causeReason);
@@ -152,7 +152,8 @@ final class HistoryEdges extends Edge {
         answers("saveSnapshot() at first", 0, NEW, ShawlKnitter::saveSnapshot);
         sentence(61, "Saves a snapshot of the data, in place of an earlier snapshot.");
         Setup twice = and(shawl(30), ShawlKnitter::saveSnapshot, ShawlKnitter::undo, ShawlKnitter::saveSnapshot);
-        answers("restoreSnapshot() of the second", 20, and(twice, ShawlKnitter::castOff), ShawlKnitter::restoreSnapshot);
+        answers("restoreSnapshot() of the second", 20, and(twice, ShawlKnitter::castOff),
+                ShawlKnitter::restoreSnapshot);
         answers("the data after it", Check.outcome(() -> View.ofData(Trace.come(shawl(20)))),
                 and(twice, ShawlKnitter::castOff, ShawlKnitter::restoreSnapshot), View::ofData);
     }

@@ -172,7 +172,8 @@ final class KnittingEdges extends Edge {
     }
 
     private static void stitchesInWithoutLimits() {
-        sentence(33, "as if there was enough yarn and no limit of courses, and a course of width 0 could be knit, too.");
+        sentence(33, "as if there was enough yarn and no limit of courses, and a course of width 0 could be"
+                + " knit, too.");
         answers("stitchesIn(10) without yarn", 240, bed(0, 23), knitter -> knitter.stitchesIn(10));
         answers("stitchesIn(10) after 30 courses", 10, shawl(30), knitter -> knitter.stitchesIn(10));
         answers("stitchesIn(10) after 29 courses", 10, shawl(29), knitter -> knitter.stitchesIn(10));

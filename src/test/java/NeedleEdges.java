@@ -1,3 +1,5 @@
+import java.util.function.IntPredicate;
+
 /** The boundaries of promises 1 to 18: a new object, and the needles. */
 final class NeedleEdges extends Edge {
     private static final Setup FULL = bed(0, 23);
@@ -98,9 +100,13 @@ final class NeedleEdges extends Edge {
         sentence(3, "takes all needles out of work, and finishes the shawl.");
         Setup off = ShawlKnitter::castOff;
         bedIs("after castOff() of all", "........................", and(FULL, off));
-        bedIs("after castOff() of one with loops", "........................", and(bed(0, 5), drop(0, 1, 2, 3, 4), off));
+        bedIs("after castOff() of one with loops", "........................",
+                and(bed(0, 5), drop(0, 1, 2, 3, 4), off));
         answers("finishedShawls()", 1, and(FULL, off), ShawlKnitter::finishedShawls);
         answers("droppedLoops()", 0, and(FULL, off), ShawlKnitter::droppedLoops);
+        Setup rest = and(shawl(0), rows(7, 8, 9), yarn(3, 9), feeder(3), tension(6), drop(0), knitter -> knitter.pickUp(0));
+        answers("the data after castOff()", "bed . . . . . . . . . . . . . . . . . . . . . . . . yarn 200 0 0 8 feeder 3"
+                + " tension 6 pattern 11100000 00010000 10010000 courses totals 1 209 1 1", and(rest, off), View::ofData);
         sentence(3, "The courses of the shawl are removed, and no needle is on hold any more.");
         answers("courseCount() after 30 courses", 0, and(shawl(30), off), ShawlKnitter::courseCount);
         refuses("widthOf(0) after castOff()", NO_INDEX, and(shawl(1), off), knitter -> knitter.widthOf(0));
@@ -337,6 +343,18 @@ final class NeedleEdges extends Edge {
     private static void questionsOfOneNeedle() {
         needlesAre(9, "isInWork", FULL, true, ShawlKnitter::isInWork);
         needlesAre(9, "isInWork on an empty bed", NEW, false, ShawlKnitter::isInWork);
+        sentence(9, "Returns whether it is in work.");
+        indexesAre(24, "whether one needle alone is in work", NEW, true, (knitter, needle) -> {
+            knitter.castOn(needle, needle);
+            return isAlone(knitter, needle, knitter::isInWork);
+        });
+        answers("isInWork(7) without loops", true, and(FULL, drop(7)), knitter -> knitter.isInWork(7));
+        sentence(10, "Returns whether it is on hold.");
+        indexesAre(24, "whether one needle alone is on hold", FULL, true, (knitter, needle) -> {
+            knitter.hold(needle);
+            return isAlone(knitter, needle, knitter::isOnHold);
+        });
+        answers("isOnHold(7) without loops", true, and(FULL, hold(7), drop(7)), knitter -> knitter.isOnHold(7));
         needlesAre(10, "isOnHold", FULL, false, ShawlKnitter::isOnHold);
         needlesAre(10, "isOnHold of all", and(FULL, holdFrom(0)), true, ShawlKnitter::isOnHold);
         needlesAre(11, "loopsOn", FULL, 1, ShawlKnitter::loopsOn);
@@ -350,6 +368,16 @@ final class NeedleEdges extends Edge {
             answers("loopsOn(" + needle + ") after a drop", 0, and(FULL, drop(needle)),
                     knitter -> knitter.loopsOn(needle));
         }
+    }
+
+    /** The question is true of one needle, and false of all others. */
+    private static boolean isAlone(ShawlKnitter knitter, int needle, IntPredicate question) {
+        for (int other = 0; other < 24; other++) {
+            if (question.test(other) != (other == needle)) {
+                return false;
+            }
+        }
+        return true;
     }
 
     private static void ageOn() {

@@ -234,8 +234,8 @@ final class ReasonEdges extends Edge {
 
     private static void whatIsChange() {
         sentence(TERMS, "A change is a call of castOn, castOff, hold, release, dropStitch, pickUp, transfer, addYarn,"
-                + " selectFeeder, setTension, addPatternRow, clearPattern, knit or execute that returns a value, also if"
-                + " nothing is different after it.");
+                + " selectFeeder, setTension, addPatternRow, clearPattern, knit or execute that returns a value, also"
+                + " if nothing is different after it.");
         Setup ready = and(bed(0, 3), hold(3), drop(2), yarn(0, 99), rows(255));
         changeIs("castOn", ready, knitter -> knitter.castOn(5, 6));
         changeIs("castOff", ready, ShawlKnitter::castOff);
@@ -326,6 +326,14 @@ final class ReasonEdges extends Edge {
         answers("the data after undo()", due, and(before, all, ShawlKnitter::undo), View::ofData);
         Setup back = and(ShawlKnitter::saveSnapshot, all, ShawlKnitter::restoreSnapshot);
         answers("the data after restoreSnapshot()", due, and(before, back), View::ofData);
+        String varied = Check.outcome(() -> View.ofData(Trace.come(varied())));
+        answers("30 courses after undo() of another shawl", varied,
+                and(varied(), other(), undos(7)), View::ofData);
+        answers("30 courses after restoreSnapshot() in another shawl", varied, and(varied(),
+                ShawlKnitter::saveSnapshot, other(), ShawlKnitter::restoreSnapshot), View::ofData);
+        answers("30 courses after undo() of another shawl that commands have knit", varied,
+                and(varied(), knitter -> Trace.execute(knitter, "y3=99;q;x;c0-2;f3;t1;k10;k10;k10"),
+                        undos(1)), View::ofData);
         Setup others = and(ShawlKnitter::writeBed, tried(ShawlKnitter::castOff), tried("x;"),
                 tried(knitter -> knitter.hold(0)), knitter -> knitter.appendInput('t'));
         for (Setup cover : new Setup[] {and(tension(5), others, ShawlKnitter::undo),
@@ -337,6 +345,24 @@ final class ReasonEdges extends Edge {
             answers("tension() by the input", 9, and(cover, knitter -> Trace.execute(knitter, "9")),
                     ShawlKnitter::tension);
         }
+    }
+
+    /** 30 courses that differ in width, yarn, feeder and drops. */
+    private static Setup varied() {
+        return and(bed(0, 1), yarn(0, 200), yarn(1, 200), rows(1, 3, 1, 1, 3), knitter -> {
+            for (int part = 0; part < 10; part++) {
+                knitter.castOn(2 + part, 2 + part);
+                knitter.hold(2 + part);
+                knitter.selectFeeder(part % 2);
+                knitter.setTension(1 + part % 3);
+                knitter.knit(3);
+            }
+        });
+    }
+
+    /** Another 30 courses of three needles, in seven changes. */
+    private static Setup other() {
+        return and(ShawlKnitter::castOff, ShawlKnitter::clearPattern, tension(1), bed(0, 2), courses(30));
     }
 
     // ---- exceptions

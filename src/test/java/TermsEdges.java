@@ -180,8 +180,8 @@ final class TermsEdges extends Edge {
     }
 
     private static void rowsAndColumns() {
-        sentence(TERMS, "The course with the index c is knit by the row c mod r of the pattern, where r is the number of"
-                + " its rows, and the needle n by the column n mod 8 of this row.");
+        sentence(TERMS, "The course with the index c is knit by the row c mod r of the pattern, where r is the number"
+                + " of its rows, and the needle n by the column n mod 8 of this row.");
         for (int rows = 1; rows <= 6; rows++) {
             Setup pattern = diagonal(rows);
             for (int course = 0; course <= 13; course++) {
@@ -197,7 +197,8 @@ final class TermsEdges extends Edge {
         for (int needle = 0; needle < 24; needle++) {
             int n = needle;
             int bit = 1 << n % 8;
-            answers("willKnit(" + n + ") by its column", true, and(bed(n, n), rows(bit)), knitter -> knitter.willKnit(n));
+            answers("willKnit(" + n + ") by its column", true, and(bed(n, n), rows(bit)),
+                    knitter -> knitter.willKnit(n));
             answers("willKnit(" + n + ") by the others", false, and(bed(n, n), rows(255 - bit)),
                     knitter -> knitter.willKnit(n));
         }
@@ -354,6 +355,12 @@ final class TermsEdges extends Edge {
                     knitter -> knitter.transfer(7, false));
             answers("ageOn(6), whose loop had dropped at the end of a course", age, fallen,
                     knitter -> knitter.ageOn(6));
+            for (int empty = age; empty <= 7; empty++) {
+                Setup waiting = and(shawl(0), bed(6, 6), drop(6), courses(empty - age), bed(7, 7), hold(7),
+                        courses(age), knitter -> knitter.transfer(7, false));
+                answers("ageOn(6), which had no loops for " + empty + " courses", age, waiting,
+                        knitter -> knitter.ageOn(6));
+            }
         }
     }
 

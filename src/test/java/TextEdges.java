@@ -26,8 +26,8 @@ final class TextEdges extends Edge {
     // ---- output
 
     private static void writeBed() {
-        sentence(51, "for each needle \".\" if it is not in work, \"o\" if it is in work without loops, and otherwise the"
-                + " number of its loops; a needle on hold has \"h\" in place of \"o\"");
+        sentence(51, "for each needle \".\" if it is not in work, \"o\" if it is in work without loops, and otherwise"
+                + " the number of its loops; a needle on hold has \"h\" in place of \"o\"");
         bedIs("........................", NEW);
         for (int needle : new int[] {0, 12, 22}) {
             for (int count = 0; count <= 3; count++) {
@@ -56,8 +56,8 @@ final class TextEdges extends Edge {
     }
 
     private static void writeCourse() {
-        sentence(52, "its index, \":\", its width, \"f\" and its feeder, \"y\" and its yarn, and if loops dropped, \"!\" and"
-                + " their number.");
+        sentence(52, "its index, \":\", its width, \"f\" and its feeder, \"y\" and its yarn, and if loops dropped,"
+                + " \"!\" and their number.");
         courseIs("0:1f0y1", 0, shawl(1));
         courseIs("9:1f0y1", 9, shawl(30));
         courseIs("10:1f0y1", 10, shawl(30));
@@ -142,7 +142,8 @@ final class TextEdges extends Edge {
         refuses("appendInput('5') to 60 characters", BAD_STATE, typed(THIRTY), knitter -> knitter.appendInput('5'));
         refuses("appendInput(' ') to 60 characters", BAD_STATE, typed(" ".repeat(60)),
                 knitter -> knitter.appendInput(' '));
-        answers("execute() of the 60 characters after it", 30, and(typed(THIRTY), tried(knitter -> knitter.appendInput('5'))),
+        answers("execute() of the 60 characters after it", 30,
+                and(typed(THIRTY), tried(knitter -> knitter.appendInput('5'))),
                 ShawlKnitter::execute);
         answers("appendInput('5') after execute() of 60 characters", 1, and(typed(THIRTY), ShawlKnitter::execute),
                 knitter -> knitter.appendInput('5'));

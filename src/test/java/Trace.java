@@ -19,7 +19,7 @@ final class Trace {
         try {
             setup.on(knitter);
         } catch (Exception e) {
-            throw new IllegalStateException("the way to the question is closed", e);
+            throw new IllegalStateException(Check.subject() + ": the way to the question is closed", e);
         }
         return knitter;
     }

@@ -104,9 +104,11 @@ final class NeedleEdges extends Edge {
                 and(bed(0, 5), drop(0, 1, 2, 3, 4), off));
         answers("finishedShawls()", 1, and(FULL, off), ShawlKnitter::finishedShawls);
         answers("droppedLoops()", 0, and(FULL, off), ShawlKnitter::droppedLoops);
-        Setup rest = and(shawl(0), rows(7, 8, 9), yarn(3, 9), feeder(3), tension(6), drop(0), knitter -> knitter.pickUp(0));
-        answers("the data after castOff()", "bed . . . . . . . . . . . . . . . . . . . . . . . . yarn 200 0 0 8 feeder 3"
-                + " tension 6 pattern 11100000 00010000 10010000 courses totals 1 209 1 1", and(rest, off), View::ofData);
+        Setup rest = and(shawl(0), rows(7, 8, 9), yarn(3, 9), feeder(3), tension(6), drop(0),
+                knitter -> knitter.pickUp(0));
+        answers("the data after castOff()", "bed . . . . . . . . . . . . . . . . . . . . . . . . yarn 200 0 0 8"
+                + " feeder 3 tension 6 pattern 11100000 00010000 10010000 courses totals 1 209 1 1", and(rest, off),
+                View::ofData);
         sentence(3, "The courses of the shawl are removed, and no needle is on hold any more.");
         answers("courseCount() after 30 courses", 0, and(shawl(30), off), ShawlKnitter::courseCount);
         refuses("widthOf(0) after castOff()", NO_INDEX, and(shawl(1), off), knitter -> knitter.widthOf(0));

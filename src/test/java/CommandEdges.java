@@ -1,4 +1,4 @@
-/** The boundaries of the terms about commands: what follows what, and the offset of what does not. */
+/** The sentences of the terms about commands: what follows what, and the offset of what does not. */
 final class CommandEdges extends Edge {
     private static final int TERMS = Document.TERMS;
     private static final Setup FULL = bed(0, 23);
@@ -66,7 +66,7 @@ final class CommandEdges extends Edge {
 
     private static void bedIs(String due, String commands, Setup setup) {
         answers("the bed after '" + commands + "'", due, and(setup, done(commands)),
-                knitter -> View.output(knitter, knitter.writeBed()));
+                Edge::bedOf);
     }
 
     private static Setup done(String commands) {
@@ -149,7 +149,7 @@ final class CommandEdges extends Edge {
         }
         executes("p00000000;p11111111;p00000000;p11111111;p00000000;p11111111", 6, NEW);
         answers("the pattern after other commands", "00000000 00000000 ", and(FULL, done("t7;h23"),
-                done("p00000000;p00000000")), CommandEdges::patternOf);
+                done("p00000000;p00000000")), View::ofPattern);
         rejectsCommands("p11111111", 0, ShawlKnitter.PATTERN_LIMIT, rows(1, 2, 3, 4, 5, 6));
         errs("p0000000", 8);
         errs("p000000000", 9);
@@ -160,17 +160,6 @@ final class CommandEdges extends Edge {
         answers("patternRows()", 0, and(rows(1, 2, 3, 4, 5, 6), done("q")), ShawlKnitter::patternRows);
         executes("q", 1, NEW);
         errs("q0", 1);
-    }
-
-    private static String patternOf(ShawlKnitter knitter) {
-        StringBuilder text = new StringBuilder();
-        for (int row = 0; row < knitter.patternRows(); row++) {
-            for (int column = 0; column < 8; column++) {
-                text.append(knitter.isKnit(row, column) ? '1' : '0');
-            }
-            text.append(' ');
-        }
-        return text.toString();
     }
 
     private static void knitting() {

@@ -1,4 +1,4 @@
-/** The boundaries of promises 36 to 50: courses and totals. */
+/** The sentences of promises 36 to 50: courses and totals. */
 final class CourseEdges extends Edge {
     private static final Setup OFF = ShawlKnitter::castOff;
 
@@ -11,6 +11,7 @@ final class CourseEdges extends Edge {
         coursesAre(38, "yarnOf", 1, ShawlKnitter::yarnOf);
         coursesAre(39, "feederOf", 0, ShawlKnitter::feederOf);
         coursesAre(40, "dropsOf", 0, ShawlKnitter::dropsOf);
+        indexesOfCourses();
         extremesOfCourses();
         courseByWidth();
         orderOfWidths();
@@ -49,6 +50,25 @@ final class CourseEdges extends Edge {
                 knitter -> asking.of(knitter, 1));
         refuses(call + " of 10 after undo()", NO_INDEX, and(shawl(20), ShawlKnitter::undo),
                 knitter -> asking.of(knitter, 10));
+    }
+
+    private static void indexesOfCourses() {
+        indexIs(37, "4 2 1 3 2 1 2 2", ShawlKnitter::widthOf);
+        indexIs(38, "8 4 2 9 6 3 18 18", ShawlKnitter::yarnOf);
+        indexIs(39, "0 0 0 3 3 3 1 1", ShawlKnitter::feederOf);
+        indexIs(40, "0 0 0 0 0 0 1 0", ShawlKnitter::dropsOf);
+    }
+
+    /** The answers of eight courses; the needle 3 knits in the course 0, and its loop drops in the course 6. */
+    private static void indexIs(int section, String due, AskingByIndex asking) {
+        sentence(section, "- `course`: the index of a course");
+        Setup different = and(bed(0, 3), yarn(0, 50), yarn(3, 50), yarn(1, 50), rows(15, 3, 1), tension(2), courses(1),
+                hold(3), courses(2), feeder(3), tension(3), courses(3), drop(2), feeder(1), tension(9), courses(2));
+        String[] answers = due.split(" ");
+        for (int index = 0; index < answers.length; index++) {
+            int course = index;
+            answers("of the course " + course, answers[course], different, knitter -> asking.of(knitter, course));
+        }
     }
 
     private static void extremesOfCourses() {

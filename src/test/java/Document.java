@@ -30,12 +30,12 @@ final class Document {
         return sentences.stream().filter(sentence -> sentence.contains(quote)).findFirst().orElse(null);
     }
 
-    /** All sentences of which each must have a test of its own, with the number of their section ahead. */
+    /** All sentences that say something to test, with the number of their section ahead. */
     static List<String> owed() {
         List<String> owed = new ArrayList<>();
         for (int section : SECTIONS.keySet()) {
             for (String sentence : SECTIONS.get(section)) {
-                if (section == TERMS && !saysNothing(sentence) || section > TERMS && namesBoundary(sentence)) {
+                if (section >= WHAT_IT_IS && !saysNothing(sentence)) {
                     owed.add(section + ": " + sentence);
                 }
             }
@@ -46,10 +46,6 @@ final class Document {
     /** A heading of a paragraph ("Further rules."), or where a comment stands in the interface. */
     private static boolean saysNothing(String sentence) {
         return sentence.startsWith("Ahead of the calls") || sentence.matches("[A-Z][a-z]+( rules)?\\.");
-    }
-
-    private static boolean namesBoundary(String sentence) {
-        return sentence.startsWith("Throws ") || sentence.matches(".*(\\d to \\d|, from 0|, 0 if ).*");
     }
 
     private static TreeMap<Integer, List<String>> read() {
@@ -84,7 +80,7 @@ final class Document {
         if (matcher.matches()) {
             return Integer.parseInt(matcher.group(1));
         }
-        // The other sections, none of which is quoted, share one number.
+        // The face, which FaceTest looks at, and what is not promised share one number; none of them is quoted.
         return heading.equals("## Terms") ? TERMS : heading.equals("## What it is") ? WHAT_IT_IS : -2;
     }
 

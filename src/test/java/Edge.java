@@ -2,8 +2,8 @@ import java.util.HashSet;
 import java.util.Set;
 
 /**
- * The tests of the boundaries that the document names: each stands for one sentence, and asks on both sides. Every
- * question goes to a knitter of its own, as a knitter promises 512 calls alone.
+ * The tests of the sentences of the document: each stands for one of them, and asks on both sides of the boundary that
+ * it names. Every question goes to a knitter of its own, as a knitter promises 512 calls alone.
  */
 abstract class Edge {
     /** The calls that bring a new knitter to where a question is asked. */
@@ -60,7 +60,7 @@ abstract class Edge {
     static void closeLastSentence() {
         closeSentence();
         current = "";
-        Check.subject("the sentences that name a boundary");
+        Check.subject("the sentences of the document");
         for (String sentence : Document.owed()) {
             Check.same("a look for a test of '" + sentence + "'", true, quoted.contains(sentence));
         }
@@ -171,6 +171,11 @@ abstract class Edge {
         }
     }
 
+    /** The whole bed, as the output tells it. */
+    static String bedOf(ShawlKnitter knitter) {
+        return View.output(knitter, knitter.writeBed());
+    }
+
     // ---- where questions are asked
 
     static Setup and(Setup... parts) {
@@ -189,6 +194,14 @@ abstract class Edge {
         return knitter -> {
             for (int needle : needles) {
                 knitter.hold(needle);
+            }
+        };
+    }
+
+    static Setup release(int... needles) {
+        return knitter -> {
+            for (int needle : needles) {
+                knitter.release(needle);
             }
         };
     }

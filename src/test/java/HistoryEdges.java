@@ -1,4 +1,4 @@
-/** The boundaries of promises 57 to 62: rejections, undo and the snapshot. */
+/** The sentences of promises 57 to 62: rejections, undo and the snapshot. */
 final class HistoryEdges extends Edge {
     private static final Setup REJECTED = tried(knitter -> knitter.hold(23));
     private static final Setup COMMAND_REJECTED = tried(knitter -> Trace.execute(knitter, "t5;h9"));
@@ -9,6 +9,7 @@ final class HistoryEdges extends Edge {
     static void run() {
         noRejection(57, "Throws `NoSuchElementException` if no call was rejected", ShawlKnitter::rejectionReason,
                 ShawlKnitter.NOT_IN_WORK);
+        everyReason();
         latestReason();
         noRejection(58, "Throws `NoSuchElementException` if no call was rejected", ShawlKnitter::rejectionDetail, 23);
         latestDetail();
@@ -36,6 +37,55 @@ final class HistoryEdges extends Edge {
         refuses("after forecasts", NO_ELEMENT, and(tried(ShawlKnitter::coursesPossible),
                 tried(knitter -> knitter.dropsIn(10))), asking);
         answers("after a rejection", due, REJECTED, asking);
+    }
+
+    /** A call that is rejected, the command that stands for the same call, and what is ahead of both. */
+    private record Rejected(int reason, int detail, Setup before, Asking call, String command) {
+    }
+
+    private static Rejected[] everyRejection() {
+        return new Rejected[] {
+            new Rejected(ShawlKnitter.IN_WORK, 2, bed(2, 3), knitter -> knitter.castOn(1, 5), "c1-5"),
+            new Rejected(ShawlKnitter.NOT_IN_WORK, 9, bed(2, 3), knitter -> knitter.hold(9), "h9"),
+            new Rejected(ShawlKnitter.NO_LOOPS, 2, and(bed(2, 3), drop(2, 3)), ShawlKnitter::castOff, "x"),
+            new Rejected(ShawlKnitter.HAS_LOOPS, 1, bed(2, 3), knitter -> knitter.pickUp(2), "u2"),
+            new Rejected(ShawlKnitter.ON_HOLD, 23, and(bed(23, 23), hold(23)), knitter -> knitter.hold(23), "h23"),
+            new Rejected(ShawlKnitter.NOT_ON_HOLD, 8, bed(8, 8), knitter -> knitter.release(8), "r8"),
+            new Rejected(ShawlKnitter.BED_END, 0, bed(0, 3), knitter -> knitter.transfer(0, false), "l0"),
+            new Rejected(ShawlKnitter.NO_PARTNER, 4, bed(0, 3), knitter -> knitter.transfer(3, true), "g3"),
+            new Rejected(ShawlKnitter.LOOP_LIMIT, 4, and(bed(0, 0), loops(0, 3), bed(1, 1)),
+                    knitter -> knitter.transfer(1, false), "l1"),
+            new Rejected(ShawlKnitter.NO_YARN, 12, bed(0, 3), knitter -> knitter.knit(1), "k1"),
+            new Rejected(ShawlKnitter.YARN_LIMIT, 198, yarn(2, 198), knitter -> knitter.addYarn(2, 3), "y2=3"),
+            new Rejected(ShawlKnitter.PATTERN_LIMIT, 6, rows(0, 0, 0, 0, 0, 0), knitter -> knitter.addPatternRow(9),
+                    "p10010000"),
+            new Rejected(ShawlKnitter.COURSE_LIMIT, 30, shawl(30), knitter -> knitter.knit(1), "k1"),
+            new Rejected(ShawlKnitter.NOTHING_TO_KNIT, 0, NEW, knitter -> knitter.knit(1), "k1")};
+    }
+
+    private static void everyReason() {
+        Rejected[] rejections = everyRejection();
+        sentence(57, "Returns the reason, one of the constants.");
+        for (Rejected each : rejections) {
+            answers("rejectionReason()", each.reason, and(each.before, tried(each.call)),
+                    ShawlKnitter::rejectionReason);
+            answers("rejectionReason() of '" + each.command + "'", ShawlKnitter.COMMAND_REJECTED,
+                    and(each.before, tried(each.command)), ShawlKnitter::rejectionReason);
+        }
+        sentence(58, "Returns the detail.");
+        for (Rejected each : rejections) {
+            answers("rejectionDetail() of the reason " + each.reason, each.detail, and(each.before, tried(each.call)),
+                    ShawlKnitter::rejectionDetail);
+            answers("rejectionDetail() of 't5;t6;" + each.command + "'", 2,
+                    and(each.before, tried("t5;t6;" + each.command)), ShawlKnitter::rejectionDetail);
+        }
+        sentence(59, "Returns the reason, one of the constants.");
+        for (Rejected each : rejections) {
+            answers("causeReason() of '" + each.command + "'", each.reason, and(each.before, tried(each.command)),
+                    ShawlKnitter::causeReason);
+            answers("causeReason() of a call", "NoSuchElementException", and(each.before, tried(each.command),
+                    tried(each.call)), ShawlKnitter::causeReason);
+        }
     }
 
     private static void latestReason() {

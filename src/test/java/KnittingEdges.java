@@ -1,4 +1,4 @@
-/** The boundaries of promises 29 to 35: knitting and forecasts. */
+/** The sentences of promises 29 to 35: knitting and forecasts. */
 final class KnittingEdges extends Edge {
     private static final Setup RICH = and(yarn(0, 200), tension(1));
 

@@ -1,8 +1,11 @@
 import java.util.function.IntPredicate;
 
-/** The boundaries of promises 1 to 18: a new object, and the needles. */
+/** The sentences of promises 1 to 18: a new object, and the needles. */
 final class NeedleEdges extends Edge {
     private static final Setup FULL = bed(0, 23);
+    /** The needles 0 to 3, each with as many loops as its index says. */
+    private static final Setup NONE_TO_THREE = and(bed(3, 3), loops(3, 3), bed(1, 2),
+            knitter -> knitter.transfer(1, true), bed(0, 1), drop(0));
 
     private NeedleEdges() {
     }
@@ -10,6 +13,7 @@ final class NeedleEdges extends Edge {
     static void run() {
         newObject();
         castOn();
+        rangesOfCastOn();
         castOnOfNoRange();
         castOnRejections();
         castOff();
@@ -18,6 +22,7 @@ final class NeedleEdges extends Edge {
         dropStitch();
         pickUp();
         pickUpRejections();
+        whatIsTransferred();
         transfer();
         transferRejections();
         questionsOfOneNeedle();
@@ -57,7 +62,18 @@ final class NeedleEdges extends Edge {
     }
 
     private static void bedIs(String when, String due, Setup setup) {
-        answers("the bed " + when, due, setup, knitter -> View.output(knitter, knitter.writeBed()));
+        answers("the bed " + when, due, setup, Edge::bedOf);
+    }
+
+    private static void rangesOfCastOn() {
+        sentence(2, "- `first`: the first needle of the range");
+        for (int needle = 0; needle < 24; needle++) {
+            bedIs("after castOn(" + needle + ", 23)", ".".repeat(needle) + "1".repeat(24 - needle), bed(needle, 23));
+        }
+        sentence(2, "- `last`: the last needle of the range");
+        for (int needle = 0; needle < 24; needle++) {
+            bedIs("after castOn(0, " + needle + ")", "1".repeat(needle + 1) + ".".repeat(23 - needle), bed(0, needle));
+        }
     }
 
     private static void castOnOfNoRange() {
@@ -130,6 +146,14 @@ final class NeedleEdges extends Edge {
 
     private static void hold() {
         needlesAre(4, "hold", FULL, 1, ShawlKnitter::hold);
+        sentence(4, "Puts a needle on hold.");
+        for (int needle = 0; needle < 24; needle++) {
+            bedIs("after hold(" + needle + ")", "1".repeat(needle) + "a" + "1".repeat(23 - needle),
+                    and(FULL, hold(needle)));
+        }
+        bedIs("with none to 3 loops on hold", "habc....................", and(NONE_TO_THREE, hold(0, 1, 2, 3)));
+        answers("ageOn(3) after hold(3)", 2, and(shawl(0), bed(3, 3), rows(1), courses(2), hold(3)),
+                knitter -> knitter.ageOn(3));
         sentence(4, "Returns the number of needles on hold after the call.");
         answers("hold of the last one", 24, and(FULL, holdFrom(1)), knitter -> knitter.hold(0));
         answers("hold(23) beside others", 3, and(FULL, hold(0, 4)), knitter -> knitter.hold(23));
@@ -162,6 +186,15 @@ final class NeedleEdges extends Edge {
 
     private static void release() {
         needlesAre(5, "release", and(FULL, holdFrom(0)), 23, ShawlKnitter::release);
+        sentence(5, "Takes a needle off hold.");
+        for (int needle = 0; needle < 24; needle++) {
+            bedIs("after release(" + needle + ")", "a".repeat(needle) + "1" + "a".repeat(23 - needle),
+                    and(FULL, holdFrom(0), release(needle)));
+        }
+        bedIs("with none to 3 loops off hold", "o123....................",
+                and(NONE_TO_THREE, hold(0, 1, 2, 3), release(0, 1, 2, 3)));
+        answers("ageOn(3) after release(3)", 2, and(shawl(0), bed(3, 3), hold(3), courses(2), release(3)),
+                knitter -> knitter.ageOn(3));
         sentence(5, "Returns the number of needles on hold after the call.");
         answers("release(0), the last one", 0, and(FULL, hold(0)), knitter -> knitter.release(0));
         answers("release(23) beside others", 2, and(FULL, hold(0, 4, 23)), knitter -> knitter.release(23));
@@ -252,6 +285,25 @@ final class NeedleEdges extends Edge {
     }
 
     // ---- transfer
+
+    private static void whatIsTransferred() {
+        sentence(8, "Transfers all loops of a needle to the needle beside it.");
+        for (int count = 1; count <= 3; count++) {
+            Setup moved = and(bed(3, 3), loops(3, count), bed(4, 4), drop(4), knitter -> knitter.transfer(3, true));
+            bedIs("after the transfer of all loops", "...." + count + "...................", moved);
+            answers("loopCount() after it", count, moved, ShawlKnitter::loopCount);
+            answers("droppedLoops() after it", 1, moved, ShawlKnitter::droppedLoops);
+        }
+        sentence(8, "- `toRight`: whether the loops go to the needle with the next greater index, and not to the one"
+                + " with the next lower index");
+        for (int index = 0; index < 23; index++) {
+            int needle = index;
+            bedIs("after transfer(" + needle + ", true)", "1".repeat(needle) + ".2" + "1".repeat(22 - needle),
+                    and(FULL, knitter -> knitter.transfer(needle, true)));
+            bedIs("after transfer(" + (needle + 1) + ", false)", "1".repeat(needle) + "2." + "1".repeat(22 - needle),
+                    and(FULL, knitter -> knitter.transfer(needle + 1, false)));
+        }
+    }
 
     private static void transfer() {
         needlesAre(8, "transfer", FULL, 2, (knitter, needle) -> knitter.transfer(needle, needle < 23));

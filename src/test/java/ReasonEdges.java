@@ -1,4 +1,4 @@
-/** The boundaries of the terms about reasons, rejections, changes and exceptions. */
+/** The sentences of the terms about reasons, rejections, changes and exceptions. */
 final class ReasonEdges extends Edge {
     private static final int TERMS = Document.TERMS;
     private static final Setup FULL = bed(0, 23);

@@ -1,4 +1,4 @@
-/** The boundaries of what the document is and of the terms: needles, yarn, pattern and courses. */
+/** The sentences of what the program is and of the terms: needles, yarn, pattern and courses. */
 final class TermsEdges extends Edge {
     private static final int TERMS = Document.TERMS;
     private static final Setup FULL = bed(0, 23);
@@ -308,8 +308,8 @@ final class TermsEdges extends Edge {
             }
             Setup held = and(aged(7, count, 5), courses(1));
             Setup slipped = and(aged(7, count, 5), knitter -> knitter.release(7), rows(1), courses(1));
-            answers("the bed with 7 on hold", "1......h................", held, TermsEdges::bedOf);
-            answers("the bed with 7 slipped", "1......o................", slipped, TermsEdges::bedOf);
+            answers("the bed with 7 on hold", "1......h................", held, Edge::bedOf);
+            answers("the bed with 7 slipped", "1......o................", slipped, Edge::bedOf);
             answers("dropsOf(5)", count, held, knitter -> knitter.dropsOf(5));
             answers("dropsOf(5) of slipped ones", count, slipped, knitter -> knitter.dropsOf(5));
             answers("dropsOf(4)", 0, held, knitter -> knitter.dropsOf(4));
@@ -319,10 +319,6 @@ final class TermsEdges extends Edge {
                 and(aged(7, 1, 6), knitter -> knitter.pickUp(7), courses(5)), knitter -> knitter.loopsOn(7));
         answers("loopsOn(7) that is picked up later and slipped for 6 courses", 0,
                 and(aged(7, 1, 6), knitter -> knitter.pickUp(7), courses(6)), knitter -> knitter.loopsOn(7));
-    }
-
-    private static String bedOf(ShawlKnitter knitter) {
-        return View.output(knitter, knitter.writeBed());
     }
 
     // ---- further rules

@@ -1,4 +1,4 @@
-/** The boundaries of promises 51 to 56: text output and commands. */
+/** The sentences of promises 51 to 56: text output and commands. */
 final class TextEdges extends Edge {
     private static final Setup FULL = bed(0, 23);
     /** The longest input, of 30 commands. */
@@ -10,10 +10,13 @@ final class TextEdges extends Edge {
     static void run() {
         writeBed();
         writeCourse();
+        exampleOfCourse();
         noSuchCourse();
+        charactersOfOutput();
         outputAt();
         codesOfInput();
         lengthOfInput();
+        orderOfInput();
         execute();
         inputIsEmptied();
         syntaxErrorsOfExecute();
@@ -77,6 +80,20 @@ final class TextEdges extends Edge {
         courseIs("9:1f0y1", 9, and(shawl(30), knitter -> knitter.writeCourse(29)));
     }
 
+    private static void exampleOfCourse() {
+        sentence(52, "An example is \"4:12f0y36!2\".");
+        // Loops drop in the course 5 at the earliest, so the example can only be followed in its form.
+        Setup twelve = and(bed(0, 13), hold(2, 12), yarn(0, 199), courses(4));
+        courseIs("4:12f0y36", 4, and(twelve, courses(1)));
+        courseIs("5:12f0y36!2", 5, and(twelve, courses(1), knitter -> knitter.addYarn(0, 35), courses(1)));
+        sentence(52, "- `course`: the index of a course");
+        Setup different = and(shawl(0), rows(1, 3, 7), bed(1, 2), courses(10));
+        for (int index = 0; index < 10; index++) {
+            int width = index % 3 + 1;
+            courseIs(index + ":" + width + "f0y" + width, index, different);
+        }
+    }
+
     private static void courseIs(String due, int course, Setup setup) {
         answers("the course " + course, due + "IndexOutOfBoundsException",
                 and(setup, knitter -> knitter.writeCourse(course)), View::ofOutput);
@@ -93,6 +110,24 @@ final class TextEdges extends Edge {
                 knitter -> knitter.writeCourse(0));
         refuses("writeCourse(0) after undo()", NO_INDEX, and(shawl(1), ShawlKnitter::undo),
                 knitter -> knitter.writeCourse(0));
+    }
+
+    private static void charactersOfOutput() {
+        sentence(53, "Returns a character of the output.");
+        Setup course = and(bed(0, 12), hold(12), yarn(0, 200), tension(2), courses(6),
+                knitter -> knitter.writeCourse(5));
+        String due = "5:12f0y24!1";
+        for (int index = 0; index < due.length(); index++) {
+            int at = index;
+            answers("outputAt(" + at + ") of a course", due.charAt(at), course, knitter -> knitter.outputAt(at));
+        }
+        sentence(53, "Returns the character.");
+        Setup bed = and(bed(0, 0), bed(22, 22), hold(22), loops(22, 3), ShawlKnitter::writeBed);
+        answers("outputAt(0) of a bed", '1', bed, knitter -> knitter.outputAt(0));
+        answers("outputAt(1) of a bed", '.', bed, knitter -> knitter.outputAt(1));
+        answers("outputAt(22) of a bed", 'c', bed, knitter -> knitter.outputAt(22));
+        answers("outputAt(22) after the bed was changed", 'c', and(bed, ShawlKnitter::castOff),
+                knitter -> knitter.outputAt(22));
     }
 
     private static void outputAt() {
@@ -147,6 +182,18 @@ final class TextEdges extends Edge {
                 ShawlKnitter::execute);
         answers("appendInput('5') after execute() of 60 characters", 1, and(typed(THIRTY), ShawlKnitter::execute),
                 knitter -> knitter.appendInput('5'));
+    }
+
+    private static void orderOfInput() {
+        sentence(54, "Appends a character to the input.");
+        answers("tension() after 't5;t6'", 6, and(typed("t5;t6"), ShawlKnitter::execute), ShawlKnitter::tension);
+        answers("tension() after 't6;t5'", 5, and(typed("t6;t5"), ShawlKnitter::execute), ShawlKnitter::tension);
+        answers("needlesInWork() after 'c2-13'", 12, and(typed("c2-"), typed("1"), typed("3"), ShawlKnitter::execute),
+                ShawlKnitter::needlesInWork);
+        answers("needlesInWork() ahead of execute()", 0, typed("c2-13"), ShawlKnitter::needlesInWork);
+        answers("execute() after calls between the characters", 1, and(typed("c"), bed(5, 6), ShawlKnitter::undo,
+                typed("0"), tried(ShawlKnitter::castOff), typed("-2"), ShawlKnitter::saveSnapshot, typed("3"),
+                ShawlKnitter::restoreSnapshot, ShawlKnitter::writeBed), ShawlKnitter::execute);
     }
 
     // ---- execute
@@ -253,6 +300,12 @@ final class TextEdges extends Edge {
     }
 
     private static void syntaxErrorOffset() {
+        sentence(56, "Returns the offset.");
+        for (int offset = 0; offset <= 60; offset++) {
+            String right = "q;".repeat(offset / 2) + (offset % 2 == 1 ? "q" : "");
+            answers("syntaxErrorOffset() after " + offset + " characters", offset,
+                    tried(right + (offset < 60 ? "?" : "")), ShawlKnitter::syntaxErrorOffset);
+        }
         sentence(56, "Throws `NoSuchElementException` if there was no syntax error");
         answers("syntaxErrorOffset() at first", "NoSuchElementException", NEW, ShawlKnitter::syntaxErrorOffset);
         for (String commands : new String[] {"t5", "x", "t0", "t0;x"}) {

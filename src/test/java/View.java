@@ -21,14 +21,7 @@ final class View {
         }
         text.append("feeder ").append(knitter.activeFeeder());
         text.append(" tension ").append(knitter.tension()).append(" pattern ");
-        int rows = knitter.patternRows();
-        for (int row = 0; row < rows; row++) {
-            for (int column = 0; column < 8; column++) {
-                text.append(knitter.isKnit(row, column) ? '1' : '0');
-            }
-            text.append(' ');
-        }
-        text.append("courses ");
+        text.append(ofPattern(knitter)).append("courses ");
         int courses = knitter.courseCount();
         for (int course = 0; course < courses; course++) {
             text.append(courseOf(knitter, course)).append(' ');
@@ -36,6 +29,19 @@ final class View {
         text.append("totals ").append(knitter.finishedShawls());
         text.append(' ').append(knitter.yarnAdded()).append(' ').append(knitter.yarnUsed());
         return text.append(' ').append(knitter.droppedLoops()).toString();
+    }
+
+    /** The rows, each with its column 0 first. */
+    static String ofPattern(ShawlKnitter knitter) {
+        StringBuilder text = new StringBuilder();
+        int rows = knitter.patternRows();
+        for (int row = 0; row < rows; row++) {
+            for (int column = 0; column < 8; column++) {
+                text.append(knitter.isKnit(row, column) ? '1' : '0');
+            }
+            text.append(' ');
+        }
+        return text.toString();
     }
 
     private static String needleOf(ShawlKnitter knitter, int needle) {

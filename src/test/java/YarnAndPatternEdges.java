@@ -1,4 +1,6 @@
-/** The boundaries of promises 19 to 28: yarn, tension and pattern. */
+import java.util.Arrays;
+
+/** The sentences of promises 19 to 28: yarn, tension and pattern. */
 final class YarnAndPatternEdges extends Edge {
     private YarnAndPatternEdges() {
     }
@@ -16,6 +18,13 @@ final class YarnAndPatternEdges extends Edge {
     }
 
     private static void addYarn() {
+        sentence(19, "Adds yarn to a feeder.");
+        for (int index = 0; index < 4; index++) {
+            int feeder = index;
+            answers("the feeders after addYarn(" + feeder + ", 30)", yarnWith(feeder, 50),
+                    and(yarn(0, 20), yarn(1, 20), yarn(2, 20), yarn(3, 20), knitter -> knitter.addYarn(feeder, 30)),
+                    YarnAndPatternEdges::yarnOfAll);
+        }
         feedersAre(19, "addYarn", NEW, 7, (knitter, feeder) -> knitter.addYarn(feeder, 7));
         sentence(19, "Throws `IndexOutOfBoundsException` if there is no such feeder");
         answers("addYarn(3, 99)", 99, NEW, knitter -> knitter.addYarn(3, 99));
@@ -34,6 +43,23 @@ final class YarnAndPatternEdges extends Edge {
             refuses("addYarn(3, " + units + ") to a full feeder", BAD_ARGUMENT, yarn(3, 200),
                     knitter -> knitter.addYarn(3, units));
         }
+    }
+
+    /** The yarn of all feeders, of which the others have 20 units. */
+    private static String yarnWith(int feeder, int units) {
+        StringBuilder text = new StringBuilder();
+        for (int index = 0; index < 4; index++) {
+            text.append(index == feeder ? units : 20).append(' ');
+        }
+        return text.toString();
+    }
+
+    private static String yarnOfAll(ShawlKnitter knitter) {
+        StringBuilder text = new StringBuilder();
+        for (int index = 0; index < 4; index++) {
+            text.append(knitter.yarnIn(index)).append(' ');
+        }
+        return text.toString();
     }
 
     private static void addYarnUpToTheLimit() {
@@ -55,6 +81,15 @@ final class YarnAndPatternEdges extends Edge {
     }
 
     private static void selectFeeder() {
+        sentence(20, "Makes a feeder the active one.");
+        Setup equal = and(bed(0, 2), yarn(0, 20), yarn(1, 20), yarn(2, 20), yarn(3, 20));
+        for (int feeder = 0; feeder < 4; feeder++) {
+            Setup knit = and(equal, feeder(feeder), courses(1));
+            answers("activeFeeder() after selectFeeder(" + feeder + ")", feeder, knit, ShawlKnitter::activeFeeder);
+            answers("the feeders after a course", yarnWith(feeder, 11), knit, YarnAndPatternEdges::yarnOfAll);
+            answers("the feeders after pickUp", yarnWith(feeder, 19), and(equal, feeder(feeder), drop(1),
+                    knitter -> knitter.pickUp(1)), YarnAndPatternEdges::yarnOfAll);
+        }
         feedersAre(20, "selectFeeder", NEW, 0, ShawlKnitter::selectFeeder);
         sentence(20, "Returns the feeder that was active before.");
         for (int before = 0; before < 4; before++) {
@@ -65,6 +100,13 @@ final class YarnAndPatternEdges extends Edge {
     }
 
     private static void setTension() {
+        sentence(21, "Sets the tension.");
+        for (int tension = 1; tension <= 9; tension++) {
+            answers("yarnOf(1) after setTension(" + tension + ")", 3 * tension, and(bed(0, 2), yarn(0, 99), courses(1),
+                    tension(tension), courses(1)), knitter -> knitter.yarnOf(1));
+            answers("yarnOf(0) after it", 9, and(bed(0, 2), yarn(0, 99), courses(1), tension(tension)),
+                    knitter -> knitter.yarnOf(0));
+        }
         sentence(21, "- `tension`: the new tension, 1 to 9");
         for (int tension = 1; tension <= 9; tension++) {
             int due = tension;
@@ -84,6 +126,13 @@ final class YarnAndPatternEdges extends Edge {
     }
 
     private static void addPatternRow() {
+        sentence(22, "Adds a row to the end of the pattern.");
+        int[] masks = {0x10, 0x0F, 0x81, 0, 0xFF, 0x3C};
+        String pattern = "00001000 11110000 10000001 00000000 11111111 00111100 ";
+        for (int count = 1; count <= 6; count++) {
+            answers("the pattern after " + count + " rows", pattern.substring(0, 9 * count),
+                    rows(Arrays.copyOf(masks, count)), View::ofPattern);
+        }
         sentence(22, "- `mask`: the row as a bit mask, 0 to 255; bit k is the column k");
         for (int mask = 0; mask <= 255; mask++) {
             int row = mask;

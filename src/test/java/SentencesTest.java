@@ -1,5 +1,5 @@
-/** Each sentence of the document that names a boundary, with a test of its own. */
-public final class BoundariesTest {
+/** Each sentence of the document, with a test of its own. */
+public final class SentencesTest {
     public static void main(String[] arguments) {
         TermsEdges.run();
         CommandEdges.run();
@@ -10,6 +10,7 @@ public final class BoundariesTest {
         CourseEdges.run();
         TextEdges.run();
         HistoryEdges.run();
+        OneShawl.run();
         Edge.closeLastSentence();
         Check.finish();
     }
